@@ -1,12 +1,16 @@
+import java.math.BigInteger;
+
 /** Long runs of calls, ordinary and at the bounds, each answer compared with the model's. */
 public final class ModelTest {
     private static final int RUNS = 1500;
-    private static final int CALLS = 500;
+    /** The document promises 512 calls; a step makes at most 14. */
+    private static final int CALLS = 512 - 28;
 
     private long seed;
     private TankFilter real;
     private TankModel model;
     private String place;
+    private int calls = 0;
 
     private ModelTest(long seed) {
         this.seed = seed;
@@ -23,8 +27,8 @@ public final class ModelTest {
         real = new TankFilter();
         model = new TankModel();
         int temper = number % 6;
-        for (int call = 0; call < CALLS && Check.allRight(); call += 2) {
-            place = "run " + number + ", call " + call + ": ";
+        while (calls < CALLS && Check.allRight()) {
+            place = "run " + number + ", call " + calls + ": ";
             step(temper);
             due("digest()", real.digest(), model.digest());
         }
@@ -37,6 +41,7 @@ public final class ModelTest {
     }
 
     private void due(String call, long got, long want) {
+        calls++;
         Check.due(place + call, got, want);
     }
 
@@ -96,9 +101,9 @@ public final class ModelTest {
 
     /** Often near the estimate, so that the gate lets it pass. */
     private int reading(int temper) {
-        int near = next(2) == 0 ? real.level() : real.flow();
-        if (next(3) > 0 && Math.abs(near) < 40000000) {
-            return near + next(20001) - 10000;
+        BigInteger near = next(2) == 0 ? model.s.filter.x : model.s.filter.v;
+        if (next(3) > 0 && near.abs().intValueExact() < 40000000) {
+            return near.intValueExact() + next(20001) - 10000;
         }
         return between(-40960000, 40960000, temper);
     }
