@@ -11,6 +11,8 @@ public final class NoiseTest {
         promises24And25SteadyAfterTheLastCycle();
         promises24And25FlowSensor();
         promises24And25GateDoesNotMatter();
+        promises24And25LevelInTheLimit(1);
+        promises24And25LevelInTheLimit(-1);
         promises24And25Failures();
         promises24And25WrongArguments();
         promise26ReplayError();
@@ -20,6 +22,7 @@ public final class NoiseTest {
         promise26StepOverflow();
         promise26SumInTheLimit();
         promise27BestFlowNoise();
+        promise27EachCandidate();
         promise27LeavesOut();
         promise27Ties();
         Check.end();
@@ -99,6 +102,19 @@ public final class NoiseTest {
             t.setGate(gate);
             steady(t, 0, 1, 0, 0);
         }
+    }
+
+    private static void promises24And25LevelInTheLimit(int sign) {
+        TankFilter t = quiet(sign * 40960000, sign * 4096000, 0, 0);
+        for (int i = 1; i <= 116; i++) {
+            t.predict(sign * 4096000);
+        }
+        t.predict(sign * 576000);
+        Check.due("level()", t.level(), sign * (1000000000 - 4096000));
+        // The first cycle takes x just to the limit.
+        steady(t, 0, 1, 0, 0);
+        t.predict(sign * -4095999);
+        steady(t, 0, TankFilter.NONE, TankFilter.NONE, TankFilter.NONE);
     }
 
     private static void promises24And25Failures() {
@@ -222,6 +238,7 @@ public final class NoiseTest {
         }
         t.correct(0, 40960000 - 16960000);
         Check.asks("replayError(0) in the limit", t, 1000000000, () -> t.replayError(0));
+        Check.asks("bestFlowNoise() in the limit", t, 0, t::bestFlowNoise);
         t.correct(0, 40960000);
         Check.asks("replayError(0) in the limit", t, 1000000000, () -> t.replayError(0));
         t.correct(0, 40960000 - 1);
@@ -268,6 +285,34 @@ public final class NoiseTest {
             }
         }
         return best;
+    }
+
+    private static void promise27EachCandidate() {
+        best(0, 3100, 64, 1200, 1200, 300, -400);
+        best(1, 7100, 1, -500, 4000, 2100, 4800);
+        best(4, 22802, 1, 5000, 12500, 20000, 24700);
+        best(16, 5860, 64, 100, 300, 4800, 3300);
+        best(64, 14300, 64, 2700, 8300, 9700, 12300);
+        best(256, 15322, 64, 3600, 9000, 12400, 19200);
+        best(1024, 9129, 4096, 1000, 1900, 5400, 3400);
+        best(4096, 12075, 4096, 2800, 8400, 8900, 13600);
+        best(16384, 10838, 4096, 4500, 3900, 6600, 12000);
+        best(65536, 13052, 4096, 5100, 6300, 11200, 15600);
+        best(262144, 9229, 100000, 3100, 4500, 5300, 8400);
+        best(1048576, 12376, 1000000, 2000, 6200, 7500, 14000);
+    }
+
+    /** A prediction before each reading, and no variance before the replay brings its noise. */
+    private static void best(int candidate, int error, int variance, int... readings) {
+        TankFilter t = quiet(0, 0, 0, 0);
+        t.setGate(0);
+        t.setSensor(0, TankFilter.LEVEL, variance);
+        for (int reading : readings) {
+            t.predict(0);
+            t.correct(0, reading);
+        }
+        Check.asks("bestFlowNoise()", t, candidate, t::bestFlowNoise);
+        Check.asks("replayError(" + candidate + ")", t, error, () -> t.replayError(candidate));
     }
 
     private static void promise27LeavesOut() {

@@ -4,6 +4,8 @@ public final class UndoTest {
         promise28Undo();
         promise28KeepsFourStates();
         promise28RestoresEverything();
+        promise28RestoresEachSensor();
+        promise28RestoresTheHistory();
         promise28FailuresSaveNothing();
         promise29ErrorCount();
         promise30DigestOfANewObject();
@@ -69,6 +71,35 @@ public final class UndoTest {
         long gone = 4 * Check.power(31, (int) values - 3);
         Check.due("digest()", t.digest(), before + Check.power(31, (int) values) - gone);
         Check.due("errorCount(0)", t.errorCount(0), 1);
+    }
+
+    private static void promise28RestoresEachSensor() {
+        for (int i = 0; i < 4; i++) {
+            int sensor = i;
+            TankFilter t = new TankFilter();
+            Check.undoable("setSensor()", t, 4096, () -> t.setSensor(sensor, TankFilter.FLOW, 9 + sensor));
+            Check.due("setSensor()", t.setSensor(i, TankFilter.LEVEL, 5), 4096);
+        }
+    }
+
+    private static void promise28RestoresTheHistory() {
+        TankFilter t = new TankFilter();
+        for (int i = 1; i <= 24; i++) {
+            t.predict(i);
+        }
+        long before = t.digest();
+        t.predict(100);
+        t.correct(3, 200);
+        t.undo();
+        t.undo();
+        // The entries that were dropped are there again; two of the four states are gone.
+        long gone = 2 * Check.power(31, 26 + 2 * 24 - 3);
+        Check.due("digest()", t.digest(), before - gone);
+        t.reset(1, 2, 3, 4);
+        t.predict(5);
+        t.undo();
+        t.undo();
+        Check.due("digest()", t.digest(), before - gone);
     }
 
     private static void promise28FailuresSaveNothing() {
