@@ -201,14 +201,14 @@ public final class TankFilter {
         if (isOutside(steps, 0, STEPS_BOUND)) {
             return fail(INVALID);
         }
-        return tryToAdvance(steps) ? (int) trial.level : fail(OVERFLOW);
+        return runPredictions(steps) ? (int) trial.level : fail(OVERFLOW);
     }
 
     public int forecastVariance(int steps) {
         if (isOutside(steps, 0, STEPS_BOUND)) {
             return fail(INVALID);
         }
-        return tryToAdvance(steps) ? (int) trial.levelVariance : fail(OVERFLOW);
+        return runPredictions(steps) ? (int) trial.levelVariance : fail(OVERFLOW);
     }
 
     public int stepsTo(int target) {
@@ -234,14 +234,14 @@ public final class TankFilter {
         if (!isSensor(sensor)) {
             return fail(INVALID);
         }
-        return tryCyclesUntilSteady(now.sensorKinds[sensor], now.sensorVariances[sensor]);
+        return runCyclesUntilSteady(now.sensorKinds[sensor], now.sensorVariances[sensor]);
     }
 
     public int steadyGain(int sensor, int kind) {
         if (!isSensor(sensor) || !isKind(kind)) {
             return fail(INVALID);
         }
-        int cycles = tryCyclesUntilSteady(now.sensorKinds[sensor], now.sensorVariances[sensor]);
+        int cycles = runCyclesUntilSteady(now.sensorKinds[sensor], now.sensorVariances[sensor]);
         if (cycles == NONE) {
             return NONE;
         }
@@ -255,7 +255,7 @@ public final class TankFilter {
         if (!now.history.hasReading()) {
             return fail(REJECTED);
         }
-        int error = tryReplay(flowNoise);
+        int error = runReplay(flowNoise);
         return error == OVERFLOW ? fail(OVERFLOW) : error;
     }
 
@@ -266,7 +266,7 @@ public final class TankFilter {
         int best = NONE;
         long bestError = LIMIT + 1;
         for (int i = 0; i < FLOW_NOISE_CANDIDATES.length; i++) {
-            int error = tryReplay(FLOW_NOISE_CANDIDATES[i]);
+            int error = runReplay(FLOW_NOISE_CANDIDATES[i]);
             if (error != OVERFLOW && error < bestError) {
                 best = FLOW_NOISE_CANDIDATES[i];
                 bestError = error;
@@ -370,7 +370,7 @@ public final class TankFilter {
         savedCount = saved.length - 1;
     }
 
-    private boolean tryToAdvance(int steps) {
+    private boolean runPredictions(int steps) {
         trial.copyFrom(now.estimate);
         for (int i = 0; i < steps; i++) {
             if (!trial.advance(0, now.levelNoise, now.flowNoise)) {
@@ -380,7 +380,7 @@ public final class TankFilter {
         return true;
     }
 
-    private int tryCyclesUntilSteady(int kind, int variance) {
+    private int runCyclesUntilSteady(int kind, int variance) {
         trial.copyFrom(now.estimate);
         for (int cycle = 1; cycle <= CYCLES_BOUND; cycle++) {
             long a = trial.levelVariance;
@@ -397,7 +397,7 @@ public final class TankFilter {
         return NONE;
     }
 
-    private int tryReplay(int flowNoise) {
+    private int runReplay(int flowNoise) {
         trial.copyFrom(now.estimate);
         long sum = 0;
         for (int i = 0; i < now.history.size && i < HISTORY_LENGTH; i++) {
