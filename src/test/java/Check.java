@@ -1,18 +1,29 @@
+import java.util.function.IntUnaryOperator;
 import java.util.function.LongSupplier;
 
 /** Compares answers with those that are due and ends a test's main method. */
 final class Check {
     private static int wrong = 0;
     private static int compared = 0;
+    private static int sentences = 0;
+    private static String sentence = "";
 
     private Check() {
+    }
+
+    /** Runs the test of one sentence of the document; what it finds is told with that sentence. */
+    static void sentence(String text, Runnable test) {
+        sentence = text + ": ";
+        sentences++;
+        test.run();
+        sentence = "";
     }
 
     static void due(String call, long got, long want) {
         compared++;
         if (got != want) {
             wrong++;
-            System.out.println(call + " answered " + got + ", due is " + want);
+            System.out.println(sentence + call + " answered " + got + ", due is " + want);
         }
     }
 
@@ -51,6 +62,30 @@ final class Check {
         fails(call, t, TankFilter.INVALID, answer);
     }
 
+    static void rejected(String call, TankFilter t, LongSupplier answer) {
+        fails(call, t, TankFilter.REJECTED, answer);
+    }
+
+    static void overflows(String call, TankFilter t, LongSupplier answer) {
+        fails(call, t, TankFilter.OVERFLOW, answer);
+    }
+
+    /** Both ends of the range are taken; what is just outside it is INVALID, and so are int's own ends. */
+    static void range(String call, TankFilter t, int low, int high, IntUnaryOperator answer) {
+        for (int bad : new int[] {low - 1, high + 1, Integer.MIN_VALUE, Integer.MAX_VALUE}) {
+            invalid(call + " of " + bad, t, () -> answer.applyAsInt(bad));
+        }
+        for (int good : new int[] {low, high}) {
+            int before = t.errorCount(0);
+            holds(call + " of " + good + " is taken", answer.applyAsInt(good) != TankFilter.INVALID);
+            due("errorCount(0) after " + call + " of " + good, t.errorCount(0), before);
+        }
+    }
+
+    static void holds(String what, boolean condition) {
+        due(what, condition ? 1 : 0, 1);
+    }
+
     /** The call answers as due, saves one state, and undo() brings the state before it back. */
     static void undoable(String call, TankFilter t, long want, LongSupplier answer) {
         long before = t.digest();
@@ -72,7 +107,7 @@ final class Check {
     }
 
     static void end() {
-        System.out.println(compared + " answers compared, " + wrong + " not as due");
+        System.out.println(sentences + " sentences, " + compared + " answers compared, " + wrong + " not as due");
         if (wrong != 0) {
             System.exit(1);
         }
