@@ -1,4 +1,4 @@
-/** The five examples of the document. */
+/** The five examples of the document, and that of README.md. */
 public final class ExamplesTest {
     public static void main(String[] args) {
         predictionAndCorrection();
@@ -6,6 +6,7 @@ public final class ExamplesTest {
         forecastsWithoutNoise();
         overflowAndAnotherError();
         replays();
+        readme();
         Check.end();
     }
 
@@ -63,5 +64,20 @@ public final class ExamplesTest {
         Check.due("correct(0, 8192)", t.correct(0, 8192), 1);
         Check.due("replayError(64)", t.replayError(64), 2664);
         Check.due("bestFlowNoise()", t.bestFlowNoise(), 0);
+    }
+
+    private static void readme() {
+        TankFilter t = new TankFilter();
+        Check.due("setSensor(1, FLOW, 2048)", t.setSensor(1, TankFilter.FLOW, 2048), 4096);
+        Check.due("predict(0)", t.predict(0), 0);
+        Check.due("correct(0, 8192)", t.correct(0, 8192), 1);
+        Check.due("level()", t.level(), 5462);
+        Check.due("correct(1, 4096)", t.correct(1, 4096), 1);
+        Check.due("flow()", t.flow(), 3518);
+        Check.due("forecast(10)", t.forecast(10), 41027);
+        Check.due("undo()", t.undo(), 3);
+        Check.due("level() after undo()", t.level(), 5462);
+        Check.due("correct(4, 0)", t.correct(4, 0), TankFilter.INVALID);
+        Check.due("errorCount(0)", t.errorCount(0), 1);
     }
 }
